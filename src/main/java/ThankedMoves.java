@@ -965,7 +965,7 @@ public final class ThankedMoves {
             return times;
         }
 
-        /** How many times it was thanked; a law may look at any house, so each look is from 0 on. */
+        /** How many times it was thanked. */
         int settleBy(Text law) {
             for (int i = 0; i < HOUSES; i++) {
                 thanks[i] = 0;
@@ -977,7 +977,8 @@ public final class ThankedMoves {
                 if (isReady(house, law)) {
                     handOn(house);
                     times++;
-                    house = 0;
+                    // Houses farther to the left were not ready, and see nothing that has changed.
+                    house = law.looksFar ? 0 : Math.max(0, house - 2);
                 } else {
                     house++;
                 }
@@ -1270,11 +1271,15 @@ public final class ThankedMoves {
         final int[] firsts = new int[MOST_CLAUSES];
         final int[] seconds = new int[MOST_CLAUSES];
         int clauses = 0;
+
+        // Whether holds may ask for the kindness of any house, not of its own and those beside alone.
+        boolean looksFar = false;
         private final int[] stack = new int[STACK];
 
         void clear() {
             length = 0;
             clauses = 0;
+            looksFar = false;
             holdsFrom = NONE;
             giftsFrom = NONE;
         }
@@ -1693,6 +1698,7 @@ public final class ThankedMoves {
                     readOperand(open, NEGATED);
                     break;
                 case HOUSE:
+                    into.looksFar |= inHolds;
                     readOperand(open, HOUSE);
                     break;
                 case OVER:

@@ -51,6 +51,14 @@ final class Check {
         return x;
     }
 
+    /** Brings a house to more than can be told, by good. */
+    static void enrich(ThankedMoves x, int house, int kindness) {
+        x.kind(house, Math.min(kindness, 40));
+        for (int left = kindness - 40; left > 0; left -= 20) {
+            x.good(house, Math.min(left, 20));
+        }
+    }
+
     /** The kindness of all houses as digits (those above 9 in brackets). */
     static String kinds(ThankedMoves x) {
         StringBuilder all = new StringBuilder();
