@@ -31,7 +31,7 @@ public final class ThankedMoves {
     private static final int MOST_NUMBER = 9999;
     private static final int MOST_WORTH = 1000000;
 
-    // Each thanking lowers the sum of kindness * distance to both ends by one, so a settling
+    // Each thanking lowers the sum of kindness * (house + 1) * (8 - house) by two, so a settling
     // ends by itself; no run of 512 calls can bring together what this many looks would need.
     private static final int MOST_LOOKS = 10000000;
 
@@ -94,7 +94,7 @@ public final class ThankedMoves {
     private final Text[] texts = new Text[MOST_TEXTS];
     private final Text lawless = new Text();
     private final Tape tape = new Tape();
-    private final Reader reader = new Reader();
+    private final Reader reader = new Reader(tape, lawless);
     private final Street[] levels = new Street[MOST_DRAWS + 1];
     private final int[] path = new int[MOST_MET];
     private final long[] history = new long[MOST_TRIES + 1];
@@ -154,7 +154,7 @@ public final class ThankedMoves {
             return NONE;
         }
         tape.scan();
-        boolean whole = reader.readInto(texts[slot], tape);
+        boolean whole = reader.readInto(texts[slot]);
         tape.length = 0;
         if (!whole) {
             return NONE;
@@ -1543,15 +1543,19 @@ public final class ThankedMoves {
     private static final class Reader {
         int fault = NONE;
         int place = NONE;
-        private Tape tape = null;
-        private Text into = null;
+        private final Tape tape;
+        private Text into;
         private boolean inHolds = false;
         private int next = 0;
         private int token = FINISH;
 
-        /** Whether the tape could be read without a fault. */
-        boolean readInto(Text target, Tape source) {
+        Reader(Tape source, Text first) {
             tape = source;
+            into = first;
+        }
+
+        /** Whether the tape could be read without a fault. */
+        boolean readInto(Text target) {
             into = target;
             into.clear();
             fault = 0;
