@@ -124,8 +124,11 @@ final class Edges {
     }
 
     static void passTo(ThankedMoves x, int night) {
-        while (x.is(0) < night) {
-            x.night(Math.min(60, night - x.is(0)));
+        int left = night - x.is(0);
+        while (left > 0) {
+            int some = Math.min(60, left);
+            x.night(some);
+            left -= some;
         }
     }
 

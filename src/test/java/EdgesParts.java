@@ -1131,6 +1131,14 @@ final class EdgesParts {
             y.years(34, 2);
             e.same("1 more than it holds is too little", Check.kinds(y), "00000200");
         });
+        e.test("2: once, and that house alone", () -> {
+            ThankedMoves x = Check.street(null, 0, 2, 0, 0, 0, 2);
+            x.years(34, 2);
+            e.same("4 in 5, thanked once; 1 is not", Check.kinds(x), "02001210");
+            ThankedMoves y = Check.street("holds 1;", 0, 5);
+            y.years(34, 2);
+            e.same("nor where 5 can't be", Check.kinds(y), "05000200");
+        });
         e.test("3: settled, if it can be", () -> {
             ThankedMoves x = Check.street(null, 2, 0, 0, 2);
             x.years(2, 1);

@@ -7,13 +7,17 @@ import java.util.TreeMap;
 
 /**
  * Random runs of calls, each answered by the program and by PlainStreet alike: long ones of all
- * calls, short ones that ask much of one street with people in it, and ones of many texts.
+ * calls, short ones that ask much of one street with people in it, ones of many texts, and ones
+ * of the cart.
  */
 public final class OracleTest {
     private static final int RUNS = 160;
     private static final int CALLS = 330;
     private static final int ASKS = 60;
     private static final int SHORT_RUNS_A_LONG_ONE = 4;
+
+    // What an object answers behind these is free.
+    private static final int MOST_CALLS = 512;
 
     /** Each call with the highest valid value of each argument; a boolean is b. */
     private static final String[] CALLS_AND_RANGES = {
@@ -62,6 +66,7 @@ public final class OracleTest {
             for (int i = 0; i < SHORT_RUNS_A_LONG_ONE; i++) {
                 new OracleTest(seed * 1000 + i).askRun();
                 new OracleTest(seed * 1000 + i).textRun();
+                new OracleTest(seed * 1000 + i).cartRun();
             }
         }
         System.out.println(wrong == 0 ? "all runs are as due" : wrong + " runs are not as due");
@@ -127,6 +132,24 @@ public final class OracleTest {
         for (int i = 0; i < 30 && fine; i++) {
             fine = call("kind", random.nextInt(8), random.nextInt(41)) && call("person", random.nextInt(8));
             fine = fine && tellText() && (random.nextInt(4) > 0 || call("back")) && call("about", 1);
+        }
+        report(fine);
+    }
+
+    /** Needs that are told, taken away and told anew, and the rounds from each house. */
+    private void cartRun() throws Exception {
+        boolean fine = true;
+        int latest = 1 + random.nextInt(30);
+        for (int i = 0; i < 6 && fine; i++) {
+            for (int n = i == 0 ? 5 : 1; n > 0; n--) {
+                fine &= call("need", random.nextInt(8), random.nextInt(5) == 0 ? -1 : random.nextInt(latest + 1));
+            }
+            for (int from = 0; from < 8 && fine; from++) {
+                fine = call("cart", from);
+                for (int stop = 0; stop < 8 && fine; stop++) {
+                    fine = call("round", from, stop);
+                }
+            }
         }
         report(fine);
     }
@@ -221,6 +244,9 @@ public final class OracleTest {
     }
 
     private boolean call(String name, Object... arguments) throws Exception {
+        if (log.size() >= MOST_CALLS) {
+            return true;
+        }
         Object got = OURS.get(name).invoke(ours, arguments);
         Object due = PLAIN.get(name).invoke(plain, arguments);
         StringBuilder line = new StringBuilder(name).append("(");
