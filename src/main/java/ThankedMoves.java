@@ -1560,8 +1560,8 @@ public final class ThankedMoves {
             into.clear();
             fault = 0;
             place = NONE;
-            next = NONE;
-            advance();
+            next = 0;
+            token = tape.tokens[0];
             for (int i = 0; i <= MOST_CLAUSES && fault == 0 && token != FINISH; i++) {
                 readClause();
             }
